@@ -589,7 +589,7 @@ public final class ViewCards {
     private static final class Kin {
         private static final int SHIFT = 2, FEWEST_CELLS = 24, FARTHEST = 2;
 
-        final Album album;
+        private final Album album;
         // Pictures never change and captions seldom do, so every two are compared once and kept.
         final int[][] otherwise = new int[CARDS][CARDS];
         final int[][] changes = new int[CARDS][CARDS];
@@ -694,21 +694,16 @@ public final class ViewCards {
         private int chained(int card, int among, boolean byMatch) {
             int found = 1 << card;
             int waiting = found;
-            // Every CARD waits once at most.
+            // Every CARD waits once at most, so each is taken up within so many steps.
             for (int step = 0; step < CARDS && waiting != 0; step++) {
                 int next = lowest(waiting);
-                int fresh = linked(next, among & ~found, byMatch);
-                found |= fresh;
-                waiting = waiting & ~(1 << next) | fresh;
-            }
-            return found;
-        }
-
-        private int linked(int card, int among, boolean byMatch) {
-            int found = 0;
-            for (int other = 0; other < CARDS; other++) {
-                if (has(among, other) && (byMatch ? isMatch(card, other) : isLike(card, other))) {
-                    found |= 1 << other;
+                waiting &= ~(1 << next);
+                for (int other = 0; other < CARDS; other++) {
+                    boolean isNew = has(among & ~found, other);
+                    if (isNew && (byMatch ? isMatch(next, other) : isLike(next, other))) {
+                        found |= 1 << other;
+                        waiting |= 1 << other;
+                    }
                 }
             }
             return found;
@@ -765,7 +760,7 @@ public final class ViewCards {
 
         /** Takes up the SERIES of a PUBLISHER, of the CARDS that are THERE; the rest asks of it. */
         void gather(int publisher) {
-            for (int n = 0; n <= LAST_NUMBER; n++) {
+            for (int n = 1; n <= LAST_NUMBER; n++) {
                 isBorne[n] = false;
             }
             for (int card = 0; card < album.size; card++) {
@@ -787,7 +782,7 @@ public final class ViewCards {
         }
 
         boolean isMissing(int n) {
-            return n > least && n < greatest && least != NONE && !isBorne[n];
+            return n > least && n < greatest && !isBorne[n];
         }
 
         boolean isByGap(int n) {
@@ -911,11 +906,12 @@ public final class ViewCards {
 
         /** TAKEN of a NEGATIVE stands in the row of its least CARD. */
         private void findLeaders(int among) {
-            int firsts = kin.negatives(among);
+            int left = among;
             for (int card = 0; card < CARDS; card++) {
-                if (has(firsts, card)) {
+                if (has(left, card)) {
                     taken.open(card, 0, LAST_DAY);
-                    int same = kin.sameNegative(card, among);
+                    int same = kin.sameNegative(card, left);
+                    left &= ~same;
                     for (int other = card; other < CARDS; other++) {
                         if (has(same, other)) {
                             leader[other] = card;

@@ -290,6 +290,18 @@ public final class CardsTest {
         Due.due("UNKNOWN ahead of OUTSIDE", x.of(6, 5), UNKNOWN);
     }
 
+    private static void rivalsToldInTurns() {
+        ViewCards x = new ViewCards();
+        int[] lists = {1, 2, 1, 2, 3, 0};
+        for (int list : lists) x.card(list, 0, 5, 0, TOWN, 0, -1);
+        Due.due("RIVALS of two LISTS, told in turns", x.of(5, 2), 2);
+        Due.due("RIVALS of one other LIST", x.of(0, 2), 1);
+        x.card(3, 0, 5, 0, TOWN, 0, -1);
+        Due.due("RIVALS of three LISTS", x.of(5, 2), 3);
+        x.card(3, 0, 5, 0, TOWN, 0, -1);
+        Due.due("three of one LIST", x.of(5, 2), 3);
+    }
+
     private static void priceIsCutAtEveryStep() {
         ViewCards x = new ViewCards();
         x.card(0, 0, 5, 0, TOWN, 0, -1);
@@ -321,6 +333,7 @@ public final class CardsTest {
         far();
         match();
         of();
+        rivalsToldInTurns();
         priceIsCutAtEveryStep();
         Due.end();
     }

@@ -114,6 +114,27 @@ public final class CatalogueTest {
         Due.due("and are as they were", x.breaks(7), 1);
     }
 
+    private static void fullText() {
+        String blanks = " ".repeat(160);
+        faultIs(blanks, 160);
+        faultIs(blanks.substring(BACKS.length()) + BACKS, NONE);
+        faultIs(BACKS + blanks.substring(BACKS.length()), NONE);
+        String[] starts = {"of", "of 0", "of 0 from", "of 0 from 1", "of 0 from 1 to", "of 0 from 1 to 5", BACKS + ";", DAYS + ";",
+            "of 0 from 1 to 5 back", "of 0 from 1 to 5 day", "of 0 from 1 to 5 day 9", "of 0 from 1 to 5 day 9 to"};
+        for (String start : starts) {
+            faultIs(blanks.substring(start.length()) + start, 160);
+            faultIs(start + blanks.substring(start.length()), 160);
+        }
+        faultIs("a".repeat(160), 0);
+        faultIs("of " + "1".repeat(157), 3);
+        // What was there before it was erased is no more.
+        ViewCards x = new ViewCards();
+        Due.tell(x, BACKS);
+        x.erase();
+        Due.tell(x, BACKS.substring(0, BACKS.length() - 1));
+        Due.due("too soon", x.fault(), BACKS.length() - 1);
+    }
+
     private static void catalogue() {
         ViewCards x = new ViewCards();
         x.card(0, 0, 1, 0, 0, 0, -1);
@@ -231,6 +252,7 @@ public final class CatalogueTest {
     public static void main(String[] args) {
         write();
         fault();
+        fullText();
         mostLines();
         catalogue();
         breaksBacks();

@@ -36,10 +36,12 @@ public final class PlacesTest {
         Due.due("on THE MAP again", x.landmark(0, 5), 1);
         Due.due("LANDMARK 7", x.landmark(7, 6), 1);
         Due.due("those not of the VIEW are nothing", x.stood(0), ~(1L << 5));
-        ViewCards y = new ViewCards();
-        y.card(0, 0, 1, 0, 0, 0, -1);
-        y.view(0, 7);
-        Due.due("in none at first", y.stood(0), 0);
+        for (int i = 0; i < 8; i++) {
+            ViewCards y = new ViewCards();
+            y.card(0, 0, 1, 0, 0, 0, -1);
+            y.view(0, i);
+            Due.due("in none at first", y.stood(0), 0);
+        }
     }
 
     private static void walls() {
@@ -105,6 +107,9 @@ public final class PlacesTest {
         int[] three = {8 * 7, 8 * 0 + 3, 8 * 7 + 7};
         ViewCards x = viewOf(three);
         long within = cell(3, 4);
+        Due.due("the first two alone turned", viewOf(27, 24, 31).stood(0), 0);
+        Due.due("the last two alone turned", viewOf(24, 31, 30).stood(0), 0);
+        Due.due("both beside it", viewOf(8 * 2 + 3, 8 * 3 + 4).stood(0) & cell(3, 3), cell(3, 3));
         Due.due("the first and the last", x.stood(0) & within, 0);
         x.unview(0);
         x.view(0, 0);

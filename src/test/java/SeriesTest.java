@@ -61,6 +61,7 @@ public final class SeriesTest {
         Due.due("GAP 3", x.gap(0, 3), NONE);
         Due.due("GAP MOST", x.gap(0, MOST), NONE);
         Due.due("another PUBLISHER", x.gap(1, 0), NONE);
+        Due.due("the last PUBLISHER", x.gap(4, 0), NONE);
         x.days(1);
         number(x, 0, 97);
         Due.due("filled", x.gap(0, 2), NONE);
