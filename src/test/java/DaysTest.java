@@ -284,6 +284,45 @@ public final class DaysTest {
         agrees(x, "as of the day before");
     }
 
+    private static void culpritBehindAnotherNegative() {
+        ViewCards x = new ViewCards();
+        x.card(0, 0, 1, 0, PICTURES[1], 0, -1);
+        x.card(0, 0, 1, 0, PICTURES[2], 0, -1);
+        x.card(0, 0, 1, 0, PICTURES[2], 0, -1);
+        x.card(0, 0, 1, 0, PICTURES[2] ^ 15L << 35, 0, 100);
+        x.card(0, 0, 1, 0, PICTURES[2] ^ 15L << 35, 0, 100);
+        x.days(1);
+        x.card(0, 0, 1, 0, PICTURES[2] ^ 3L << 35, 0, -1);
+        x.feature(0, 200, 300);
+        x.shows(1, 0, 1);
+        x.shows(2, 0, 1);
+        quarrels(x, "the link is the culprit", 5);
+        x.set(1, 0);
+        agrees(x, "the link is not THERE");
+        spanIs(x, "the one NEGATIVE", 2, TAKEN, 200, 300);
+        spanIs(x, "the other NEGATIVE", 4, TAKEN, 0, 100);
+    }
+
+    private static void spansByLinesOfTheCatalogueAlone() {
+        ViewCards x = cards(1);
+        x.card(0, 0, 1, 0, PICTURES[1], 0, -1);
+        StringBuilder text = new StringBuilder("of0from1to1day1to90");
+        for (int i = 2; i <= 8; i++) text.append(";of0from1to1day").append(i).append("to90");
+        Due.tell(x, text.toString());
+        Due.due("eight LINES", x.catalogue(), 8);
+        spanIs(x, "by eight LINES", 1, PUBLISHED, 8, 90);
+        Due.due("and again", x.catalogue(), 8);
+        x.erase();
+        Due.tell(x, "of0from1to1day5to95");
+        spanIs(x, "THE TEXT is not yet THE CATALOGUE", 1, PUBLISHED, 8, 90);
+        x.fault();
+        spanIs(x, "nor is it, being read", 1, PUBLISHED, 8, 90);
+        Due.due("one LINE", x.catalogue(), 1);
+        spanIs(x, "by one LINE, those before are gone", 1, PUBLISHED, 5, 95);
+        Due.due("one LINE again", x.catalogue(), 1);
+        spanIs(x, "by one LINE still", 1, PUBLISHED, 5, 95);
+    }
+
     public static void main(String[] args) {
         feature();
         shows();
@@ -295,6 +334,8 @@ public final class DaysTest {
         longestChain();
         span();
         culprit();
+        culpritBehindAnotherNegative();
+        spansByLinesOfTheCatalogueAlone();
         Due.end();
     }
 }

@@ -12,6 +12,8 @@ public final class RandomRunsTest {
     private final int numbers;
     private final int time;
     private final int[] weights = new int[34];
+    /** Whether CARDS are mostly alike, and whether spans are mostly wide and LATER without rings. */
+    private final boolean isAlike, isMild;
     private int cards = 0;
     private int calls = 0;
 
@@ -22,6 +24,11 @@ public final class RandomRunsTest {
         numbers = 2 + random.nextInt(14);
         time = random.nextInt(3) == 0 ? 20001 : 30 + random.nextInt(400);
         for (int i = 0; i < weights.length; i++) weights[i] = 1 + random.nextInt(6);
+        isAlike = seed % 2 == 0;
+        isMild = seed % 3 != 0;
+        int[][] themes = {{6, 15}, {15, 22}, {22, 28}, {28, 33}, {0, 34}};
+        int[] theme = themes[(int) (seed % themes.length)];
+        for (int i = theme[0]; i < theme[1]; i++) weights[i] *= 4;
         // Without CARDS there is little to ask; walls and empty views end much of what was built up.
         weights[0] = 0;
         weights[2] = 12;
@@ -47,10 +54,20 @@ public final class RandomRunsTest {
         return below(time);
     }
 
+    private int someStart() {
+        return isMild ? someDay() / 8 : someDay() / 2;
+    }
+
+    private int someEnd() {
+        int day = someDay();
+        return isMild && day >= 0 && day < time ? time - 1 - day / 8 : day;
+    }
+
     private long somePicture() {
         long picture = pictures[random.nextInt(pictures.length)];
-        picture = Due.moved(picture, random.nextInt(5) - 2, random.nextInt(5) - 2);
-        int flips = random.nextInt(4);
+        if (isAlike && random.nextInt(4) > 0) picture = pictures[0];
+        if (!isAlike || random.nextInt(4) == 0) picture = Due.moved(picture, random.nextInt(5) - 2, random.nextInt(5) - 2);
+        int flips = isAlike ? random.nextInt(3) : random.nextInt(4);
         for (int i = 0; i < flips; i++) picture ^= 1L << random.nextInt(64);
         return picture;
     }
@@ -61,6 +78,7 @@ public final class RandomRunsTest {
         long picture = somePicture();
         int sky = random.nextInt(3) == 0 ? below(5) : 0;
         int posted = random.nextInt(3) == 0 ? someDay() : -1;
+        if (isMild && posted >= 0 && posted < time) posted = time - 1 - posted / 6;
         int due = m.card(list, publisher, number, back, picture, sky, posted);
         Due.due("card", x.card(list, publisher, number, back, picture, sky, posted), due);
         if (due >= 0) cards = due + 1;
@@ -69,7 +87,7 @@ public final class RandomRunsTest {
 
     private void tellCaption() {
         String[] words = {"mill", "mil", "mmil", "milly", "church", "churches", "", "hill", "bridge"};
-        String word = words[random.nextInt(words.length)];
+        String word = words[random.nextInt(isAlike ? 4 : words.length)];
         long bytes = Due.word(word) | (random.nextInt(wrongness) == 0 ? random.nextLong() : 0);
         int card = someCard(), n = random.nextInt(8) == 0 ? below(9) : word.length();
         Due.due("caption", x.caption(card, bytes, n), m.caption(card, bytes, n));
@@ -77,6 +95,7 @@ public final class RandomRunsTest {
 
     private String someLine() {
         int a = 1 + random.nextInt(numbers), b = a + random.nextInt(4), d = random.nextInt(time), e = d + random.nextInt(time);
+        if (isMild) d /= 4;
         if (random.nextInt(15) == 0) b = a - 1;
         if (random.nextInt(15) == 0) e = d - 1;
         String line = "of " + random.nextInt(random.nextInt(10) == 0 ? 6 : 2) + " from " + a + " to " + b;
@@ -122,10 +141,10 @@ public final class RandomRunsTest {
             case 12: a = below(2); b = below(4); Due.due("gap", x.gap(a, b), m.gap(a, b)); break;
             case 13: a = below(2); Due.due("unseen", x.unseen(a), m.unseen(a)); break;
             case 14: a = below(4); b = below(4); c = below(3); Due.due("overlap", x.overlap(a, b, c), m.overlap(a, b, c)); break;
-            case 15: a = below(8); b = someDay(); c = someDay(); Due.due("feature", x.feature(a, b, c), m.feature(a, b, c)); break;
+            case 15: a = below(8); b = someStart(); c = someEnd(); Due.due("feature", x.feature(a, b, c), m.feature(a, b, c)); break;
             case 16: a = someCard(); b = below(8); c = below(3); Due.due("shows", x.shows(a, b, c), m.shows(a, b, c)); break;
-            case 17: a = below(5); b = someDay() / 2; c = someDay(); Due.due("back", x.back(a, b, c), m.back(a, b, c)); break;
-            case 18: a = someCard(); b = someCard(); Due.due("later", x.later(a, b), m.later(a, b)); break;
+            case 17: a = below(5); b = someStart(); c = someEnd(); Due.due("back", x.back(a, b, c), m.back(a, b, c)); break;
+            case 18: a = someCard(); b = isMild ? Math.min(a - 1, someCard()) : someCard(); Due.due("later", x.later(a, b), m.later(a, b)); break;
             case 19: a = someCard(); b = below(2); c = below(2); Due.due("span", x.span(a, b, c), m.span(a, b, c)); break;
             case 20: Due.due("quarrel", x.quarrel(), m.quarrel()); break;
             case 21: Due.due("culprit", x.culprit(), m.culprit()); break;
