@@ -164,6 +164,9 @@ public final class CardsTermsTest {
         }
         Due.say(x, 1, "zzzzzzzz");
         Due.due("and are the same letters", x.far(0, 1), 0);
+        x.card(1, 0, 1, 0, TOWN, 0, -1);
+        Due.due("none at first of one told behind them", x.far(0, 2), 8);
+        Due.due("and so they do not MATCH", x.match(2, 1), 0);
     }
 
     private static void letters() {
@@ -528,6 +531,9 @@ public final class CardsTermsTest {
         Due.due("RIVALS", x.of(0, 2), 1);
         Due.say(x, 2, "abc");
         Due.due("one of them does not MATCH", x.of(0, 2), 0);
+        ViewCards turned = told(1, 1, 0);
+        Due.due("the two that MATCH were told before it", turned.of(2, 2), 1);
+        Due.due("they have none", turned.of(0, 2), 0);
         ViewCards all = told(0, 1, 1, 2, 2, 3, 3);
         Due.due("three LISTS", all.of(0, 2), 3);
         Due.due("from another LIST", all.of(1, 2), 2);

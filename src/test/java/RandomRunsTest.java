@@ -2,7 +2,7 @@ import java.util.Random;
 
 /** Long runs of calls, always the same ones, held against the plain model. */
 public final class RandomRunsTest {
-    private static final int RUNS = 150, CALLS = 512, MOST_AT_ONCE = 24;
+    private static final int RUNS = 150, CALLS = 512, MOST_AT_ONCE = 40;
 
     private final Random random;
     private final ViewCards x = new ViewCards();
@@ -122,6 +122,7 @@ public final class RandomRunsTest {
             calls++;
             Due.due("write", x.write(bytes, part.length()), m.write(bytes, part.length()));
         }
+        calls += 2;
         Due.due("fault of " + text, x.fault(), m.fault());
     }
 
@@ -167,6 +168,7 @@ public final class RandomRunsTest {
         int what = below(3);
         int value = what == 0 ? below(9) : what == 1 ? (random.nextInt(3) == 0 ? random.nextInt(40) : below(1000)) : below(10001);
         Due.due("set", x.set(what, value), m.set(what, value));
+        calls++;
         if (what == 0 && random.nextBoolean()) Due.due("set", x.set(0, 2), m.set(0, 2));
         if (what == 1 && random.nextBoolean()) Due.due("set", x.set(1, 999), m.set(1, 999));
     }

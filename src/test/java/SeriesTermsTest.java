@@ -40,6 +40,13 @@ public final class SeriesTermsTest {
         for (int publisher = 0; publisher < 5; publisher++) {
             seriesIs("PUBLISHER " + publisher, x, publisher, 2, 10 * publisher + 1, 10 * publisher + 5, 3, 1);
         }
+        ViewCards ends = series(1, 99);
+        ends.card(0, 1, 50, 0, 0, 0, -1);
+        for (int i = 0; i < 2; i++) {
+            seriesIs("from 1 to 99", ends, 0, 2, 1, 99, 97, 1);
+            seriesIs("nothing of the one asked before is left", ends, 1, 1, 50, 50, 0, 0);
+            seriesIs("nor of two before", ends, 2, 0, NONE, NONE, 0, 0);
+        }
         for (int odd : new int[] {-1, 5}) {
             Due.due("PUBLISHER " + odd, x.series(odd, 0), UNKNOWN);
             Due.due("what " + odd, x.series(0, odd), OUTSIDE);

@@ -258,6 +258,26 @@ public final class TextTermsTest {
         }
     }
 
+    private static void linesBefore() {
+        Due.says("THE TEXT becomes THE CATALOGUE");
+        ViewCards x = new ViewCards();
+        x.card(0, 0, 1, 0, 0, 0, -1);
+        String[] days = {"20 to 80", "30 to 90", "40 to 70"};
+        for (int lines = 3; lines >= 1; lines--) {
+            x.erase();
+            for (int i = 0; i < lines; i++) Due.tell(x, (i == 0 ? "" : ";") + "of 0 from 1 to 1 day " + days[i]);
+            // Twice, so that neither LINES of this CATALOGUE nor of the one before are left.
+            for (int again = 0; again < 2; again++) {
+                Due.due(lines + " LINES", x.catalogue(), lines);
+                Due.due("first day by " + lines + " LINES", x.span(0, 1, 0), 10 + 10 * lines);
+                Due.due("last day by " + lines + " LINES", x.span(0, 1, 1), lines == 3 ? 70 : 80);
+            }
+            Due.tell(x, "; of 0 from 1 to 1 day 0 to 1; of");
+            Due.due("the FAULT", x.fault(), x.count(5));
+            Due.due("last day, being read", x.span(0, 1, 1), lines == 3 ? 70 : 80);
+        }
+    }
+
     // ---- BREAKS
 
     /** Whether the one CARD breaks the one LINE. */
@@ -396,6 +416,7 @@ public final class TextTermsTest {
         digits();
         mostLines();
         theCatalogue();
+        linesBefore();
         breaksBacks();
         breaksDays();
         breaksWithoutAllLines();
