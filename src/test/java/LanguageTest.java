@@ -1,6 +1,4 @@
-import java.io.DataInputStream;
 import java.io.IOException;
-import java.io.InputStream;
 import java.lang.reflect.Constructor;
 import java.lang.reflect.Field;
 import java.lang.reflect.Method;
@@ -15,7 +13,7 @@ import java.util.TreeSet;
 import java.util.regex.Matcher;
 import java.util.regex.Pattern;
 
-/** The face of the document, and those rules of LANGUAGE.md that can be seen without reading. */
+/** The face of the document, and those rules of LANGUAGE.md that its members and its words show. */
 public final class LanguageTest {
     private static final String[] FACE = {
         "int card(int,int,int,int,long,int,int)", "int caption(int,long,int)", "int days(int)", "int set(int,int)",
@@ -26,9 +24,6 @@ public final class LanguageTest {
         "int view(int,int)", "int unview(int)", "long stood(int)", "int together(int)", "int write(long,int)",
         "int erase()", "int fault()", "int catalogue()", "int breaks(int)", "int count(int)"};
     private static final Set<String> CONSTANTS = Set.of("NONE", "UNKNOWN", "OUTSIDE", "NOT", "FULL");
-    private static final Set<String> LIBRARY = Set.of(
-        "java/lang/Object.<init>", "java/lang/Math.max", "java/lang/Math.min", "java/lang/Math.abs",
-        "java/lang/Integer.bitCount", "java/lang/Long.bitCount", "java/lang/String.length", "java/lang/String.charAt");
     private static final String FORBIDDEN = "throw|try|catch|finally|synchronized|assert|import|package|instanceof|"
         + "record|float|double|strictfp|native|transient|volatile|protected|var|yield|->|::";
 
@@ -92,46 +87,6 @@ public final class LanguageTest {
         }
     }
 
-    /** Every method outside the file that a class file names. */
-    private static Set<String> called(String classFile) throws IOException {
-        try (InputStream file = ViewCards.class.getResourceAsStream(classFile);
-                DataInputStream in = new DataInputStream(file)) {
-            in.readInt();
-            in.readInt();
-            int size = in.readUnsignedShort();
-            Object[] pool = new Object[size];
-            for (int i = 1; i < size; i++) {
-                int tag = in.readUnsignedByte();
-                switch (tag) {
-                    case 1: pool[i] = in.readUTF(); break;
-                    case 3: case 4: in.readInt(); break;
-                    case 5: case 6: in.readLong(); i++; break;
-                    case 7: pool[i] = new int[] {tag, in.readUnsignedShort()}; break;
-                    case 8: case 16: case 19: case 20: in.readUnsignedShort(); break;
-                    case 9: case 10: case 11: case 12:
-                        pool[i] = new int[] {tag, in.readUnsignedShort(), in.readUnsignedShort()};
-                        break;
-                    default: throw new IOException("tag " + tag + ": nothing dynamic may be here");
-                }
-            }
-            Set<String> called = new TreeSet<>();
-            for (Object entry : pool) {
-                if (!(entry instanceof int[] ref) || ref[0] != 10 && ref[0] != 11) continue;
-                String owner = (String) pool[((int[]) pool[ref[1]])[1]];
-                if (!owner.startsWith("ViewCards")) called.add(owner + "." + pool[((int[]) pool[ref[2]])[1]]);
-            }
-            return called;
-        }
-    }
-
-    private static void library() throws IOException {
-        Set<String> called = new TreeSet<>(called("ViewCards.class"));
-        for (Class<?> inner : ViewCards.class.getDeclaredClasses()) {
-            called.addAll(called("ViewCards$" + inner.getSimpleName() + ".class"));
-        }
-        expect("no library but " + LIBRARY + ": " + called, LIBRARY.containsAll(called));
-    }
-
     private static void words() throws IOException {
         Path source = Path.of(System.getProperty("project", "."), "src/main/java/ViewCards.java");
         String code = Files.readString(source);
@@ -152,7 +107,6 @@ public final class LanguageTest {
     public static void main(String[] args) throws IOException {
         face();
         members();
-        library();
         words();
         Due.end();
     }

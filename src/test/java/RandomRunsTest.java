@@ -178,18 +178,24 @@ public final class RandomRunsTest {
         Due.due("walls", x.walls(cells), m.walls(cells));
     }
 
-    private void run() {
+    /** One call more: whether there was one. */
+    private boolean goOn() {
+        if (calls >= CALLS - MOST_AT_ONCE) return false;
         int sum = 0;
         for (int weight : weights) sum += weight;
-        for (; calls < CALLS - MOST_AT_ONCE; calls++) {
-            int at = random.nextInt(sum), promise = 0;
-            while (at >= weights[promise]) at -= weights[promise++];
-            call(promise);
-        }
+        int at = random.nextInt(sum), promise = 0;
+        while (at >= weights[promise]) at -= weights[promise++];
+        call(promise);
+        calls++;
+        return true;
     }
 
     public static void main(String[] args) {
-        for (int seed = 1; seed <= RUNS; seed++) new RandomRunsTest(seed).run();
+        // Two at a time, call by call in turns, so that what objects had in common would be seen.
+        for (int seed = 1; seed < RUNS; seed += 2) {
+            RandomRunsTest one = new RandomRunsTest(seed), other = new RandomRunsTest(seed + 1);
+            while (one.goOn() | other.goOn()) continue;
+        }
         Due.end();
     }
 }
